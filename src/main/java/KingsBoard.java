@@ -26,6 +26,11 @@ public final class KingsBoard {
     // Fifteen queens with 27 squares each and a king with ten moves stay below this.
     private static final int MOST_MOVES = 512;
 
+    // As many can be typed; what is written is always shorter.
+    private static final int CHARACTERS = 128;
+    private static final String MAN_LETTERS = "PNBRQKpnbrqk";
+    private static final String RIGHT_LETTERS = "KQkq";
+
     private static final int MATE = 1;
     private static final int STALE = 2;
     private static final int FIFTY = 3;
@@ -1054,12 +1059,9 @@ public final class KingsBoard {
 
     /** The characters typed, and how they are read as a position. */
     private static final class Reader {
-        private static final int ROOM = 128;
         private static final int DIGITS = 4;
-        private static final String MEN = "PNBRQKpnbrqk";
-        private static final String RIGHTS = "KQkq";
 
-        private final char[] typed = new char[ROOM];
+        private final char[] typed = new char[CHARACTERS];
         private int count;
         // Behind parse(): the place of the first character that can't be there.
         int at;
@@ -1075,11 +1077,11 @@ public final class KingsBoard {
         }
 
         boolean hasRoom(int n) {
-            return count + n <= ROOM;
+            return count + n <= CHARACTERS;
         }
 
         int add(long w, int n) {
-            for (int k = 0; k < n && count < ROOM; k++) {
+            for (int k = 0; k < n && count < CHARACTERS; k++) {
                 typed[count] = (char) (w >>> 8 * k & 255);
                 count++;
             }
@@ -1108,7 +1110,7 @@ public final class KingsBoard {
 
         // 0 stands for the end: it can't be typed.
         private char look() {
-            return at < count && at < ROOM ? typed[at] : 0;
+            return at < count && at < CHARACTERS ? typed[at] : 0;
         }
 
         private boolean skip(char wanted) {
@@ -1135,7 +1137,7 @@ public final class KingsBoard {
                 char next = look();
                 boolean isDigit = next >= '1' && next <= '8';
                 int width = isDigit ? next - '0' : 1;
-                int which = MEN.indexOf(next);
+                int which = MAN_LETTERS.indexOf(next);
                 boolean fits = isDigit ? !isBehindDigit && column + width <= 8 : which >= 0;
                 if (!fits) {
                     return false;
@@ -1159,8 +1161,8 @@ public final class KingsBoard {
             if (skip('-')) {
                 return true;
             }
-            for (int k = 0; k < RIGHTS.length(); k++) {
-                if (skip(RIGHTS.charAt(k))) {
+            for (int k = 0; k < RIGHT_LETTERS.length(); k++) {
+                if (skip(RIGHT_LETTERS.charAt(k))) {
                     p.rights |= 1 << k;
                 }
             }
@@ -1216,13 +1218,9 @@ public final class KingsBoard {
 
     /** The characters written. */
     private static final class Scribe {
-        private static final int ROOM = 128;
         private static final int GREATEST_UNIT = 1000000000;
-        private static final String MEN = ".PNBRQK";
-        private static final String BLACK_MEN = ".pnbrqk";
-        private static final String RIGHTS = "KQkq";
 
-        final char[] characters = new char[ROOM];
+        final char[] characters = new char[CHARACTERS];
         int count;
 
         int copyOut(Position p) {
@@ -1244,7 +1242,7 @@ public final class KingsBoard {
         }
 
         private void add(char character) {
-            if (count < ROOM) {
+            if (count < CHARACTERS) {
                 characters[count] = character;
                 count++;
             }
@@ -1259,7 +1257,7 @@ public final class KingsBoard {
                 } else {
                     addFree(free);
                     free = 0;
-                    add(man > 0 ? MEN.charAt(man) : BLACK_MEN.charAt(-man));
+                    add(MAN_LETTERS.charAt(man > 0 ? man - 1 : KING - 1 - man));
                 }
             }
             addFree(free);
@@ -1275,9 +1273,9 @@ public final class KingsBoard {
             if (rights == 0) {
                 add('-');
             }
-            for (int k = 0; k < RIGHTS.length(); k++) {
+            for (int k = 0; k < RIGHT_LETTERS.length(); k++) {
                 if ((rights >> k & 1) != 0) {
-                    add(RIGHTS.charAt(k));
+                    add(RIGHT_LETTERS.charAt(k));
                 }
             }
         }

@@ -8,6 +8,7 @@ public final class PlayTest {
         counters();
         becomes();
         backAll();
+        mostToTakeBack();
         wrongInputs();
         Checks.finish();
     }
@@ -136,6 +137,18 @@ public final class PlayTest {
         }
         Checks.due("the beginning", Checks.written(board), Checks.BEGINNING);
         Checks.dueThrow("none to take back", IllegalStateException.class, board::back);
+    }
+
+    // Calls behind the 512th are free, but the limit that the document names is kept there too.
+    private static void mostToTakeBack() {
+        KingsBoard board = new KingsBoard();
+        for (int k = 0; k < 1024; k += 4) {
+            Checks.play(board, "g1f3 g8f6 f3g1 f6g8");
+        }
+        Checks.dueThrow("one more", IllegalStateException.class, () -> Checks.play(board, "g1f3"));
+        Checks.due("nothing has changed", board.about(3), 1024);
+        Checks.due("left", board.back(), 1023);
+        Checks.due("one again", Checks.play(board, "f6g8"), 0);
     }
 
     private static void wrongInputs() {
