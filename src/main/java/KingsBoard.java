@@ -491,6 +491,8 @@ public final class KingsBoard {
             for (int k = first; k < end; k++) {
                 long ray = rays[k * SQUARES + square];
                 long stops = ray & men;
+                // To greater squares the lowest stop is the first one; to lesser ones it is the highest,
+                // which is found by filling all bits below it.
                 if (stops == 0) {
                     squares |= ray;
                 } else if ((k & 1) == 0) {
@@ -690,7 +692,10 @@ public final class KingsBoard {
             pinned = findPinned();
         }
 
-        /** The squares on which a man other than the king ends a check. */
+        /**
+         * The squares on which a man other than the king ends a check. (Two rays that meet hold what is
+         * between their ends; a knight is on no ray.)
+         */
         private long answersToCheck() {
             long attackers = reach.attackers(seen, king, 1 - side, men);
             if (Long.bitCount(attackers) != 1) {
