@@ -2,8 +2,13 @@
 final class Checks {
     static final String BEGINNING = "rnbqkbnr/pppppppp/8/8/8/8/PPPPPPPP/RNBQKBNR w KQkq - 0 1";
 
+    private static final int MOST_TOLD = 40;
+
     private static int wrong = 0;
     private static int asked = 0;
+    private static int sentences = 0;
+    private static int askedBefore = 0;
+    private static String sentence = "";
 
     private Checks() {
     }
@@ -12,11 +17,32 @@ final class Checks {
         void run();
     }
 
+    /** The words of the document that the answers from here on are about. */
+    static void says(String words) {
+        closeSentence();
+        sentence = words;
+        sentences++;
+    }
+
+    private static void closeSentence() {
+        if (!sentence.isEmpty() && asked == askedBefore) {
+            complain("nothing was asked");
+        }
+        askedBefore = asked;
+        sentence = "";
+    }
+
+    private static void complain(String what) {
+        wrong++;
+        if (wrong <= MOST_TOLD) {
+            System.out.println((sentence.isEmpty() ? "" : "[" + sentence + "] ") + what);
+        }
+    }
+
     static void due(String what, long got, long want) {
         asked++;
         if (got != want) {
-            wrong++;
-            System.out.println(what + " answered " + got + ", due is " + want);
+            complain(what + " answered " + got + ", due is " + want);
         }
     }
 
@@ -27,23 +53,26 @@ final class Checks {
     static void due(String what, String got, String want) {
         asked++;
         if (!got.equals(want)) {
-            wrong++;
-            System.out.println(what + " answered " + got + ", due is " + want);
+            complain(what + " answered " + got + ", due is " + want);
         }
     }
 
     static void dueThrow(String what, Class<? extends RuntimeException> want, Call call) {
-        String got = "nothing";
+        due(what + " throws", thrownBy(call), want.getSimpleName());
+    }
+
+    private static String thrownBy(Call call) {
         try {
             call.run();
+            return "nothing";
         } catch (RuntimeException thrown) {
-            got = thrown.getClass().getSimpleName();
+            return thrown.getClass().getSimpleName();
         }
-        due(what + " throws", got, want.getSimpleName());
     }
 
     static void finish() {
-        System.out.println("  " + asked + " answers looked at, " + wrong + " wrong");
+        closeSentence();
+        System.out.println("  " + sentences + " sentences, " + asked + " answers looked at, " + wrong + " wrong");
         if (wrong != 0 || asked == 0) {
             System.exit(1);
         }
@@ -51,13 +80,18 @@ final class Checks {
 
     static void type(KingsBoard board, String text) {
         for (int begin = 0; begin < text.length(); begin += 8) {
-            int end = Math.min(text.length(), begin + 8);
-            long w = 0;
-            for (int k = end - 1; k >= begin; k--) {
-                w = w << 8 | text.charAt(k);
-            }
-            board.type(w, end - begin);
+            String part = text.substring(begin, Math.min(text.length(), begin + 8));
+            board.type(packed(part), part.length());
         }
+    }
+
+    /** Up to eight characters as type() takes them. */
+    static long packed(String part) {
+        long w = 0;
+        for (int k = part.length() - 1; k >= 0; k--) {
+            w = w << 8 | part.charAt(k);
+        }
+        return w;
     }
 
     static int read(KingsBoard board, String text) {
@@ -107,6 +141,21 @@ final class Checks {
         return text.toString();
     }
 
+    /** Whether a move is legal, for one side and, with the board turned round, for the other one. */
+    static void legal(String text, String move, boolean due) {
+        legalOnce(text, move, due);
+        legalOnce(Mirror.text(text), Mirror.moves(move), due);
+    }
+
+    private static void legalOnce(String text, String move, boolean due) {
+        KingsBoard board = set(text);
+        String before = written(board);
+        due(move + " is among the moves of " + text, (" " + moves(board) + " ").contains(" " + move + " "), due);
+        String want = due ? "nothing" : "IllegalStateException";
+        due(move + " in " + text + " throws", thrownBy(() -> play(board, move)), want);
+        due("the position changed", !written(board).equals(before), due);
+    }
+
     static String chosen(KingsBoard board) {
         if (board.chosen(0) == KingsBoard.NONE) {
             return "none";
@@ -116,6 +165,6 @@ final class Checks {
     }
 
     static String name(int square) {
-        return "" + (char) ('a' + square % 8) + (char) ('1' + square / 8);
+        return square < 0 ? "none" : "" + (char) ('a' + square % 8) + (char) ('1' + square / 8);
     }
 }

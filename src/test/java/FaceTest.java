@@ -28,6 +28,7 @@ public final class FaceTest {
             Map.entry("chosen", "int(int)")));
 
     public static void main(String[] args) {
+        Checks.says("the public face");
         Map<String, String> seen = new TreeMap<>();
         TreeSet<String> namedAgain = new TreeSet<>();
         for (Method method : KingsBoard.class.getDeclaredMethods()) {

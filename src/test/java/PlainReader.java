@@ -2,8 +2,13 @@ import java.util.regex.Pattern;
 
 /** Reads a written position as the document says, a character at a time: may it stand behind the others? */
 final class PlainReader {
-    private static final String[] FIELDS = {
-        "", "[wb]", "-|(?=.)K?Q?k?q?", "-|[a-h][1-8]", "0|[1-9][0-9]{0,3}", "[1-9][0-9]{0,3}"
+    private static final Pattern[] FIELDS = {
+        Pattern.compile("([PNBRQKpnbrqk]|[1-8](?![1-8]))*"),
+        Pattern.compile("[wb]"),
+        Pattern.compile("-|(?=.)K?Q?k?q?"),
+        Pattern.compile("-|[a-h][1-8]"),
+        Pattern.compile("0|[1-9][0-9]{0,3}"),
+        Pattern.compile("[1-9][0-9]{0,3}"),
     };
 
     int fault;
@@ -34,7 +39,7 @@ final class PlainReader {
 
     private static boolean isWhole(int field, String part) {
         if (field > 0) {
-            return Pattern.matches(FIELDS[field], part);
+            return FIELDS[field].matcher(part).matches();
         }
         String[] rows = part.split("/", -1);
         return rows.length == 8 && squares(rows[7]) == 8 && canBegin(0, part);
@@ -55,7 +60,7 @@ final class PlainReader {
     }
 
     private static int squares(String row) {
-        if (!row.matches("([PNBRQKpnbrqk]|[1-8](?![1-8]))*")) {
+        if (!FIELDS[0].matcher(row).matches()) {
             return -1;
         }
         int sum = 0;

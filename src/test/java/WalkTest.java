@@ -22,12 +22,15 @@ public final class WalkTest {
     private PlainBoard plain;
 
     public static void main(String[] args) {
+        Checks.says("promises 5 to 18 behind many moves");
         for (int k = 0; k < 27; k++) {
             new WalkTest().walk(BEGINNINGS[k % BEGINNINGS.length]);
         }
+        Checks.says("promises 3 to 18 in many positions");
         for (int k = 0; k < 3000; k++) {
             readRandom(randomMen(4 + random(20)));
         }
+        Checks.says("promises 3 and 4 on many rows of characters");
         for (int k = 0; k < 6000; k++) {
             readMutant();
         }

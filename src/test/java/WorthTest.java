@@ -1,64 +1,161 @@
-/** Promise 16: worth. */
+/** THE WORTH, and promise 16: worth. */
 public final class WorthTest {
     public static void main(String[] args) {
-        Checks.due("the beginning", new KingsBoard().worth(), 0);
-        // Kings in the corners are worth 0.
-        worth("P", "a2", 100 + 4 + 0);
-        worth("P", "e4", 100 + 12 + 6);
-        worth("P", "h7", 100 + 24 + 0);
-        worth("P", "c6", 100 + 20 + 4);
-        worth("N", "b1", 320 + 6);
-        worth("N", "d4", 320 + 36);
-        worth("N", "f7", 320 + 18);
-        worth("B", "b8", 330 + 4);
-        worth("B", "c3", 330 + 16);
-        worth("R", "d4", 500);
-        worth("R", "b7", 520);
-        worth("R", "b2", 500);
-        worth("Q", "g5", 900 + 8);
-        worth("Q", "g1", 900 + 2);
+        pawns();
+        knights();
+        bishops();
+        rooks();
+        queens();
         kings();
-        sideToMove();
+        everySquare();
+        sums();
+        statesDoNotCount();
         Checks.finish();
     }
 
-    /** A man alone beside kings that are worth 0, and the same for BLACK. */
+    /** A man alone beside kings whose worths are taken off, and the same for BLACK. */
     private static void worth(String letter, String square, int due) {
-        Checks.due(letter + " on " + square, alone(letter, square, true).worth(), due);
-        Checks.due("BLACK's " + letter + " on " + square, alone(letter, square, false).worth(), due);
+        int kind = " PNBRQK".indexOf(letter);
+        Checks.due(letter + " on " + square, alone(kind, Checks.at(square), true), due);
+        Checks.due("BLACK's " + letter + " on " + square, alone(kind, Checks.at(square), false), due);
     }
 
-    private static KingsBoard alone(String letter, String name, boolean isWhite) {
-        int square = Checks.at(name);
-        KingsBoard board = new KingsBoard();
-        String[] corners = {"a1", "h8", "a1", "a8", "h1", "h8", "h1", "a8", "a8", "h1", "h8", "a1"};
+    /** Kings in two corners are worth 0; the man stands beside them where he gives no check. */
+    private static int alone(int kind, int square, boolean isWhite) {
+        int[] corners = {0, 63, 0, 56, 7, 63, 7, 56, 56, 7, 63, 0, 63, 7, 56, 0};
         for (int k = 0; k < corners.length; k += 2) {
             PlainBoard plain = new PlainBoard();
             plain.mover = isWhite ? 0 : 1;
-            plain.men[Checks.at(corners[k])] = 6;
-            plain.men[Checks.at(corners[k + 1])] = -6;
-            int man = "?PNBRQK".indexOf(letter);
-            plain.men[isWhite ? square : square ^ 56] = isWhite ? man : -man;
-            if (Checks.read(board, plain.written()) == 0) {
-                return board;
+            plain.men[corners[k]] = 6;
+            plain.men[corners[k + 1]] = -6;
+            int place = isWhite ? square : square ^ 56;
+            if (plain.men[place] != 0) {
+                continue;
+            }
+            plain.men[place] = isWhite ? kind : -kind;
+            if (!plain.inCheck(1 - plain.mover)) {
+                KingsBoard board = Checks.set(plain.written());
+                return board.worth();
             }
         }
-        Checks.due("there is a corner for the kings of " + letter + name, 0, 1);
-        return board;
+        Checks.due("there are corners for the kings beside " + kind + " on " + square, 0, 1);
+        return 0;
+    }
+
+    private static void pawns() {
+        Checks.says("a pawn is worth 100 + 4 * r + 2 * e");
+        worth("P", "a2", 104);
+        worth("P", "a3", 108);
+        worth("P", "a7", 124);
+        worth("P", "b2", 106);
+        worth("P", "c2", 108);
+        worth("P", "d2", 110);
+        worth("P", "e2", 110);
+        worth("P", "f2", 108);
+        worth("P", "h2", 104);
+        worth("P", "e7", 130);
+    }
+
+    private static void knights() {
+        Checks.says("a knight 320 + 6 * m");
+        worth("N", "b1", 326);
+        worth("N", "a4", 338);
+        worth("N", "a5", 338);
+        worth("N", "d4", 356);
+        worth("N", "e5", 356);
+        worth("N", "d1", 338);
+        worth("N", "e8", 338);
+        worth("N", "f7", 338);
+    }
+
+    private static void bishops() {
+        Checks.says("a bishop 330 + 4 * m");
+        worth("B", "b8", 334);
+        worth("B", "c3", 346);
+        worth("B", "d4", 354);
+        worth("B", "e5", 354);
+        worth("B", "h2", 334);
+    }
+
+    private static void rooks() {
+        Checks.says("a rook 500, and 20 more with r 6");
+        worth("R", "d6", 500);
+        worth("R", "d7", 520);
+        worth("R", "d8", 500);
+        worth("R", "b7", 520);
+        worth("R", "h7", 520);
+        worth("R", "d2", 500);
+        worth("R", "b1", 500);
+    }
+
+    private static void queens() {
+        Checks.says("a queen 900 + 2 * m");
+        worth("Q", "g1", 902);
+        worth("Q", "g5", 908);
+        worth("Q", "d4", 912);
+        worth("Q", "e8", 906);
     }
 
     private static void kings() {
+        Checks.says("a king -3 * m");
+        Checks.due("king on a1", Checks.set("7k/8/8/8/8/8/8/K7 w - - 0 1").worth(), 0);
         Checks.due("king on d4", Checks.set("k7/8/8/8/3K4/8/8/8 w - - 0 1").worth(), -18);
         Checks.due("king on e1", Checks.set("k7/8/8/8/8/8/8/4K3 w - - 0 1").worth(), -9);
         Checks.due("the other one's", Checks.set("4k3/8/8/8/8/8/8/K7 w - - 0 1").worth(), 9);
+        Checks.due("the other one's, in the middle", Checks.set("8/8/8/4k3/8/8/8/K7 w - - 0 1").worth(), 18);
+        Checks.due("BLACK's own", Checks.set("8/8/8/4k3/8/8/8/K7 b - - 0 1").worth(), -18);
     }
 
-    private static void sideToMove() {
+    private static void everySquare() {
+        Checks.says("with r the rank of a man's square for its side, e the less of its column and 7 less that, "
+                + "and m = e + the less of r and 7 - r");
+        for (int kind = 1; kind <= 5; kind++) {
+            for (int square = 0; square < 64; square++) {
+                int r = square / 8;
+                int c = square % 8;
+                boolean isCorner = (r == 0 || r == 7) && (c == 0 || c == 7);
+                if (kind == 1 && (r == 0 || r == 7) || kind == 5 && isCorner) {
+                    continue;
+                }
+                int e = c < 7 - c ? c : 7 - c;
+                int m = e + (r < 7 - r ? r : 7 - r);
+                int[] due = {0, 100 + 4 * r + 2 * e, 320 + 6 * m, 330 + 4 * m, r == 6 ? 520 : 500, 900 + 2 * m};
+                String name = Checks.name(square);
+                Checks.due(kind + " on " + name, alone(kind, square, true), due[kind]);
+                Checks.due("BLACK's " + kind + " on " + name, alone(kind, square, false), due[kind]);
+            }
+        }
+        for (int square = 0; square < 48; square++) {
+            PlainBoard plain = new PlainBoard();
+            plain.men[square] = 6;
+            plain.men[square % 8 < 4 ? 63 : 56] = -6;
+            int c = square % 8;
+            int r = square / 8;
+            int m = (c < 7 - c ? c : 7 - c) + (r < 7 - r ? r : 7 - r);
+            Checks.due("king on " + Checks.name(square), Checks.set(plain.written()).worth(), -3 * m);
+            Checks.due("BLACK's", Checks.set(Mirror.text(plain.written())).worth(), -3 * m);
+        }
+    }
+
+    private static void sums() {
+        Checks.says("for the side to move: the sum over its men less that over the other one's");
+        Checks.due("the beginning", new KingsBoard().worth(), 0);
         String men = "4k3/pp6/2n5/8/8/3B4/PPP5/4K3 ";
         int white = 104 + 106 + 108 + 330 + 4 * 5 - 9 - (104 + 106 + 320 + 6 * 4 - 9);
-        Checks.due("white", Checks.set(men + "w - - 0 1").worth(), white);
-        Checks.due("black", Checks.set(men + "b - - 0 1").worth(), -white);
-        Checks.due("mate is not looked at", Checks.set("R5k1/5ppp/8/8/8/8/8/6K1 b - - 0 1").worth(),
-                108 + 106 + 104 - 3 - (500 - 3));
+        Checks.due("WHITE to move", Checks.set(men + "w - - 0 1").worth(), white);
+        Checks.due("BLACK to move", Checks.set(men + "b - - 0 1").worth(), -white);
+        KingsBoard board = new KingsBoard();
+        Checks.play(board, "e2e4");
+        Checks.due("behind a move", board.worth(), -8);
+        board.back();
+        Checks.due("taken back", board.worth(), 0);
+    }
+
+    private static void statesDoNotCount() {
+        Checks.says("THE WORTH of a position, whatever its STATE is");
+        Checks.due("mate", Checks.set("R5k1/5ppp/8/8/8/8/8/6K1 b - - 0 1").worth(), 108 + 106 + 104 - 3 - (500 - 3));
+        Checks.due("stale", Checks.set("7k/5Q2/6K1/8/8/8/8/8 b - - 0 1").worth(), -(906 - 9));
+        Checks.due("fifty", Checks.set("k7/8/8/8/8/8/4P3/K7 w - - 100 1").worth(), 110);
+        Checks.due("bare", Checks.set("k7/8/8/8/8/8/4N3/K7 w - - 0 1").worth(), 320 + 24);
     }
 }
