@@ -171,6 +171,7 @@ public final class FaultsTest {
         none("6bk/8/8/3pP3/8/1K6/8/8 w - ");
         taken("4k3/8/8/3pP3/8/8/8/4K3 w - d6 0 1", "4k3/8/8/2Pp4/8/8/8/4K3 w - d6 0 1");
         taken("4k3/8/8/K1PpP2q/8/8/8/8 w - d6 0 1", "8/4r1k1/8/2PpP3/8/8/8/4K3 w - d6 0 1");
+        taken("8/2r3k1/8/2PpP3/8/8/8/2K5 w - d6 0 1");
         Checks.says("when it is right: else it is FAULT 6 even so");
         fault(6, "4k3/8/8/8/8/8/8/4K3 w - d6 0 1", "4k3/3n4/8/3p4/8/8/8/4K3 w - d6 0 1");
     }

@@ -130,6 +130,12 @@ public final class MovesTest {
         Checks.says("LEGAL in check by two: only the king goes");
         moves("4r3/1k6/8/8/1b6/8/8/R3K2R w KQ - 0 1", "e1d1 e1f1 e1f2");
         moves("1k2r3/8/8/8/8/3n4/2P5/4K2R w K - 0 1", "e1d1 e1f1 e1d2");
+        for (String rook : new String[] {"R3K3", "1R2K3", "2R1K3", "4K2R", "4K1R1"}) {
+            String text = "4r3/3k4/8/8/8/3n4/8/" + rook + " w - - 0 1";
+            for (String move : Checks.moves(Checks.set(text)).split(" ")) {
+                Checks.due(move + " in " + text, move.startsWith("e1"), true);
+            }
+        }
     }
 
     private static void kingsWay() {

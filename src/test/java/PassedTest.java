@@ -58,7 +58,10 @@ public final class PassedTest {
     private static void onlyIfLegal() {
         Checks.says("a legal move that takes it so: the pawn may not leave its column");
         passed("4k3/8/8/8/4p3/8/3P4/K3R3 w - - 0 1", "d2d4", "none");
+        passed("2k5/8/8/8/2p5/8/3P4/K1R5 w - - 0 1", "d2d4", "none");
+        Checks.says("a legal move that takes it so: one of two pawns is enough");
         passed("4k3/8/8/8/2p1p3/8/3P4/K3R3 w - - 0 1", "d2d4", "d3");
+        passed("2k5/8/8/8/2p1p3/8/3P4/K1R5 w - - 0 1", "d2d4", "d3");
         Checks.says("a legal move that takes it so: two men leave the row at once");
         passed("8/8/8/8/R3p2k/8/3P4/K7 w - - 0 1", "d2d4", "none");
         passed("8/8/8/8/k3p2Q/8/3P4/K7 w - - 0 1", "d2d4", "none");

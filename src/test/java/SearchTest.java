@@ -14,6 +14,7 @@ public final class SearchTest {
         mateBeforeFifty();
         notThrice();
         greatest();
+        taking();
         first();
         whateverTheState();
         noneWithoutMoves();
@@ -163,6 +164,11 @@ public final class SearchTest {
             "8/5P1k/5K2/8/8/8/8/8 w - - 0 1",
             "7k/8/8/8/8/8/1p6/K7 w - - 99 1",
             "4k3/8/8/3b4/8/2B5/1n6/4K3 w - - 0 1",
+            "r3k2r/p1ppqpb1/bn2pnp1/3PN3/1p2P3/2N2Q1p/PPPBBPPP/R3K2R w KQkq - 0 1",
+            "r2q1rk1/pP1p2pp/Q4n2/bbp1p3/Np6/1B3NBn/pPPP1PPP/R3K2R b KQ - 0 1",
+            "8/2p5/3p4/KP5r/1R3p1k/8/4P1P1/8 w - - 0 1",
+            "rnbq1k1r/pp1Pbppp/2p5/8/2B5/8/PPP1NnPP/RNBQK2R w KQ - 1 8",
+            "k2r4/3n4/8/8/8/8/3R4/K2Q4 w - - 0 1",
         };
         for (String text : texts) {
             for (int n = 1; n <= 3; n++) {
@@ -185,6 +191,16 @@ public final class SearchTest {
             }
         }
         search(text, n, -least, first);
+    }
+
+    private static void taking() {
+        Checks.says("the greatest of 0 less the values: a man that would be taken behind it counts");
+        // A rook that takes the knight is taken in its turn.
+        search("3k4/3n4/8/8/8/8/8/K2R4 w - - 0 1", 1, 520 + 9, "d1d7");
+        search("3k4/3n4/8/8/8/8/8/K2R4 w - - 0 1", 2, 500 - 344 + 6, "d1d2");
+        // A pawn that goes by two is taken by the PASSED square.
+        search("k7/8/8/8/1p6/8/P7/K7 w - - 0 1", 2, 104 - 3 - 122, "a1b1");
+        search("k7/8/8/8/2p5/8/P7/K7 w - - 0 1", 2, 112 - 124, "a2a4");
     }
 
     private static void first() {

@@ -121,6 +121,9 @@ public final class StateTest {
         KingsBoard moved = Checks.set("4k3/8/8/8/8/8/8/1N2K1N1 w - - 0 1");
         Checks.play(moved, SHUFFLE + " e1d1 e8d8 d1e1 d8e7");
         Checks.due("a man elsewhere", moved.state(), 0);
+        KingsBoard pawn = Checks.set("4k3/8/8/8/8/8/4P3/4K3 w - - 0 1");
+        Checks.play(pawn, SHUFFLE + " e2e3 e8d8 e1d1 d8d7 d1e1 d7e8");
+        Checks.due("a pawn elsewhere", pawn.state(), 0);
         KingsBoard taken = Checks.set("4k3/8/8/8/8/8/p7/R3K3 w - - 0 1");
         Checks.play(taken, "a1b1 e8d8 b1a1 d8e8 a1a2 e8d8 a2a1 d8e8");
         Checks.due("a man less than before", taken.state(), 0);

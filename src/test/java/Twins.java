@@ -40,16 +40,22 @@ final class Twins {
             text.append(" ").append(board.chosen(what));
         }
         text.append(", last written ").append(lastWritten(board));
-        text.append(", now ").append(position(board));
+        text.append(", now ").append(Checks.written(board)).append(outline(board));
         while (canGoBack(board)) {
-            text.append(", before ").append(position(board));
+            text.append(", before").append(outline(board));
         }
         text.append(", typed ").append(typed(board)).append(", read ").append(board.read());
-        return text.append(" at ").append(board.place()).append(", now ").append(position(board)).toString();
+        return text.append(" at ").append(board.place()).append(", now ").append(Checks.written(board)).toString();
     }
 
-    private static String position(KingsBoard board) {
-        return Checks.written(board) + " state " + board.state() + " check " + board.about(5);
+    // Not all of the position, so that no board is asked more often than 512 times.
+    private static String outline(KingsBoard board) {
+        StringBuilder text = new StringBuilder(" state " + board.state() + " worth " + board.worth());
+        text.append(" moves ").append(board.moves());
+        for (int what = 0; what < 6; what++) {
+            text.append(" ").append(board.about(what));
+        }
+        return text.toString();
     }
 
     private static String lastWritten(KingsBoard board) {

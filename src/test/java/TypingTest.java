@@ -50,8 +50,8 @@ public final class TypingTest {
 
     private static void eachCharacter() {
         Checks.says("IllegalArgumentException: one is not 32 .. 126");
-        KingsBoard board = new KingsBoard();
         for (long c = 0; c < 256; c++) {
+            KingsBoard board = new KingsBoard();
             for (int k = 0; k < 8; k++) {
                 long w = EIGHT & ~(255L << 8 * k) | c << 8 * k;
                 if (c >= 32 && c <= 126) {
@@ -61,8 +61,8 @@ public final class TypingTest {
                     Checks.dueThrow(c + " as character " + k, IllegalArgumentException.class, () -> board.type(w, 8));
                 }
             }
+            Checks.due("nothing of what was refused was typed", board.type(EIGHT, 1), 1);
         }
-        Checks.due("nothing of what was refused was typed", board.type(EIGHT, 1), 1);
     }
 
     private static void beyond() {

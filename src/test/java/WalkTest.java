@@ -17,14 +17,22 @@ public final class WalkTest {
 
     private static long seed = 20261115;
 
-    private final KingsBoard board = new KingsBoard();
+    private static final PlainBoard.Move BACK = new PlainBoard.Move(-1, -1, -1);
+
+    private final String beginning;
+    private final List<PlainBoard.Move> path = new ArrayList<>();
     private final List<PlainBoard> before = new ArrayList<>();
     private PlainBoard plain;
+
+    private WalkTest(String text) {
+        beginning = text;
+        plain = new PlainReader(text).board;
+    }
 
     public static void main(String[] args) {
         Checks.says("promises 5 to 18 behind many moves");
         for (int k = 0; k < 27; k++) {
-            new WalkTest().walk(BEGINNINGS[k % BEGINNINGS.length]);
+            new WalkTest(BEGINNINGS[k % BEGINNINGS.length]).walk();
         }
         Checks.says("promises 3 to 18 in many positions");
         for (int k = 0; k < 3000; k++) {
@@ -42,42 +50,53 @@ public final class WalkTest {
         return (int) ((seed >>> 33) % bound);
     }
 
-    private void walk(String text) {
-        Checks.due("read", Checks.read(board, text), 0);
-        plain = new PlainReader(text).board;
+    private void walk() {
         for (int turn = 0; turn < 40; turn++) {
-            compare();
             List<PlainBoard.Move> moves = plain.moves();
+            int due = 0;
             if (!before.isEmpty() && (moves.isEmpty() || random(5) == 0)) {
                 plain = before.remove(before.size() - 1);
-                Checks.due("back", board.back(), before.size());
+                path.add(BACK);
+                due = before.size();
             } else if (!moves.isEmpty()) {
-                step(moves.get(random(moves.size())));
+                PlainBoard.Move move = moves.get(random(moves.size()));
+                before.add(plain);
+                plain = plain.copy();
+                due = plain.make(move);
+                path.add(move);
             }
+            compare(due);
         }
     }
 
-    private void step(PlainBoard.Move move) {
-        before.add(plain);
-        plain = plain.copy();
-        int taken = plain.make(move);
-        Checks.due("taken", board.play(move.from(), move.to(), move.becomes()), taken);
+    /** A new board that goes the whole path, since no board is asked more often than 512 times. */
+    private KingsBoard follow(int due) {
+        KingsBoard board = Checks.set(beginning);
+        int answer = 0;
+        for (PlainBoard.Move move : path) {
+            answer = move == BACK ? board.back() : board.play(move.from(), move.to(), move.becomes());
+        }
+        Checks.due("the last step to " + plain.written(), answer, due);
+        return board;
     }
 
-    private void compare() {
+    private void compare(int due) {
+        KingsBoard board = follow(due);
         List<String> keys = new ArrayList<>();
         for (PlainBoard each : before) {
             keys.add(each.key());
         }
         Checks.due("state of " + plain.written(), board.state(), plain.state(keys));
-        compareAll(board, plain);
+        compareSquares(board, plain);
+        KingsBoard searcher = follow(due);
+        compareMoves(searcher, plain);
         int deep = random(12) == 0 && plain.moves().size() < 25 ? 3 : 2;
         for (int n = 1; n <= deep; n++) {
-            compareSearch(board, plain, n);
+            compareSearch(searcher, plain, n);
         }
     }
 
-    private static void compareAll(KingsBoard board, PlainBoard plain) {
+    private static void compareSquares(KingsBoard board, PlainBoard plain) {
         String text = plain.written();
         Checks.due("written", Checks.written(board), text);
         Checks.due("check in " + text, board.about(5), plain.inCheck(plain.mover) ? 1 : 0);
@@ -89,9 +108,14 @@ public final class WalkTest {
                         board.attacked(square, side), plain.attacked(square, side));
             }
         }
+    }
+
+    private static void compareMoves(KingsBoard board, PlainBoard plain) {
+        String text = plain.written();
         List<PlainBoard.Move> moves = plain.moves();
-        Checks.due("moves of " + text, board.moves(), moves.size());
-        for (int i = 0; i < Math.min(moves.size(), board.moves()); i++) {
+        int count = board.moves();
+        Checks.due("moves of " + text, count, moves.size());
+        for (int i = 0; i < Math.min(moves.size(), count); i++) {
             Checks.due("from of " + i + " in " + text, board.move(i, 0), moves.get(i).from());
             Checks.due("to of " + i + " in " + text, board.move(i, 1), moves.get(i).to());
             Checks.due("becomes of " + i + " in " + text, board.move(i, 2), moves.get(i).becomes());
@@ -151,8 +175,10 @@ public final class WalkTest {
         KingsBoard board = new KingsBoard();
         PlainReader reader = readBoth(board, wanted.written());
         if (reader.fault == 0) {
-            compareAll(board, reader.board);
-            compareSearch(board, reader.board, 1);
+            compareSquares(board, reader.board);
+            KingsBoard searcher = Checks.set(wanted.written());
+            compareMoves(searcher, reader.board);
+            compareSearch(searcher, reader.board, 1);
             Checks.due("state", board.state(), reader.board.state(new ArrayList<>()));
         }
     }

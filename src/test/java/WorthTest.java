@@ -144,6 +144,13 @@ public final class WorthTest {
         int white = 104 + 106 + 108 + 330 + 4 * 5 - 9 - (104 + 106 + 320 + 6 * 4 - 9);
         Checks.due("WHITE to move", Checks.set(men + "w - - 0 1").worth(), white);
         Checks.due("BLACK to move", Checks.set(men + "b - - 0 1").worth(), -white);
+        Checks.says("the sum over its men: each of several of a kind");
+        Checks.due("knights", Checks.set("7k/8/8/8/3N4/8/1N6/N6K w - - 0 1").worth(), 320 + 332 + 356);
+        Checks.due("bishops", Checks.set("6k1/8/8/8/4B3/8/1B6/B6K w - - 0 1").worth(), 330 + 338 + 354 + 3);
+        Checks.due("rooks", Checks.set("7k/R7/8/8/8/8/8/R6K b - - 0 1").worth(), -1020);
+        Checks.due("queens", Checks.set("6k1/8/8/1Q6/8/8/8/Q6K b - - 0 1").worth(), -3 - 900 - 908);
+        Checks.due("all of a rank", Checks.set("k7/8/8/8/PPPPPPPP/8/8/K7 w - - 0 1").worth(), 8 * 112 + 2 * 12);
+        Checks.says("for the side to move, behind a move and taken back");
         KingsBoard board = new KingsBoard();
         Checks.play(board, "e2e4");
         Checks.due("behind a move", board.worth(), -8);
