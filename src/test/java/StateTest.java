@@ -9,7 +9,11 @@ public final class StateTest {
         thrice();
         sinceItWasSet();
         takenBack();
-        thriceTheSame();
+        sameMen();
+        sameSide();
+        sameRights();
+        samePassed();
+        otherCounters();
         bare();
         otherwise();
         least();
@@ -111,7 +115,7 @@ public final class StateTest {
         Checks.due("twice before", board.state(), 4);
     }
 
-    private static void thriceTheSame() {
+    private static void sameMen() {
         Checks.says("4 THRICE: the same men");
         KingsBoard men = Checks.set("4k3/8/8/8/8/8/8/1N2K1N1 w - - 0 1");
         Checks.play(men, "b1c3 e8d8 g1f3 d8e8 f3d2 e8d8 d2b1 d8e8 c3d5 e8d8 d5f4 d8e8 f4h3 e8d8 h3g1 d8e8");
@@ -131,10 +135,16 @@ public final class StateTest {
         Checks.due("once before since then", taken.state(), 0);
         Checks.play(taken, "a1a2 e8d8 a2a1 d8e8");
         Checks.due("twice before since then", taken.state(), 4);
+    }
+
+    private static void sameSide() {
         Checks.says("4 THRICE: the same side to move");
         KingsBoard side = Checks.set("4k3/p7/8/8/8/8/8/R3K3 w - - 0 1");
         Checks.play(side, "e1d1 e8d8 d1d2 d8e8 d2e1 e8d8 e1d1 d8e8 d1e1");
         Checks.due("the same men with the other side to move", side.state(), 0);
+    }
+
+    private static void sameRights() {
         Checks.says("4 THRICE: the same RIGHTS");
         KingsBoard rights = Checks.set("4k3/8/8/8/8/8/p7/4K2R w K - 0 1");
         Checks.play(rights, "h1h2 e8d8 h2h1 d8e8 h1h2 e8d8 h2h1 d8e8");
@@ -144,6 +154,9 @@ public final class StateTest {
         KingsBoard none = Checks.set("4k3/8/8/8/8/8/p7/4K2R w - - 0 1");
         Checks.play(none, "h1h2 e8d8 h2h1 d8e8 h1h2 e8d8 h2h1 d8e8");
         Checks.due("no right in the beginning", none.state(), 4);
+    }
+
+    private static void samePassed() {
         Checks.says("4 THRICE: the same PASSED square");
         KingsBoard passed = Checks.set("4k3/3p4/8/4P3/8/8/8/4K3 b - - 0 1");
         Checks.play(passed, "d7d5 e1d1 e8d8 d1e1 d8e8 e1d1 e8d8 d1e1 d8e8");
@@ -153,6 +166,9 @@ public final class StateTest {
         KingsBoard noPassed = Checks.set("4k3/3p4/8/7P/8/8/8/4K3 b - - 0 1");
         Checks.play(noPassed, "d7d5 e1d1 e8d8 d1e1 d8e8 e1d1 e8d8 d1e1 d8e8");
         Checks.due("there was none, since nobody could take", noPassed.state(), 4);
+    }
+
+    private static void otherCounters() {
         Checks.says("4 THRICE: HALVES and NUMBER may differ");
         KingsBoard set = Checks.set("4k3/8/8/8/8/8/4P3/4K3 w - - 7 77");
         Checks.play(set, SHUFFLE + " " + SHUFFLE);

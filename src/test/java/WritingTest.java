@@ -35,8 +35,9 @@ public final class WritingTest {
             String row = (column > 0 ? "" + column : "") + "n" + (column < 7 ? "" + (7 - column) : "");
             same("k7/8/8/8/" + row + "/8/8/7K w - - 0 1");
         }
-        same("k7/8/8/8/1n1n1n1n/8/8/7K w - - 0 1", "k7/8/8/8/n1n2n1n/8/8/7K w - - 0 1", "k7/8/8/8/nnnnnnnn/8/8/7K w - - 0 1");
-        same("k7/8/8/8/n6n/8/8/7K w - - 0 1", "k7/8/8/8/3nn3/8/8/7K w - - 0 1");
+        for (String row : new String[] {"1n1n1n1n", "n1n2n1n", "nnnnnnnn", "n6n", "3nn3"}) {
+            same("k7/8/8/8/" + row + "/8/8/7K w - - 0 1");
+        }
     }
 
     private static void letters() {
