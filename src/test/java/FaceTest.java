@@ -9,23 +9,23 @@ import java.util.TreeSet;
 /** The public face is the document's, and nothing else can be seen of the class. */
 public final class FaceTest {
     private static final Map<String, String> FACE = new TreeMap<>(Map.ofEntries(
-            Map.entry("type", "int(long,int)"),
+            Map.entry("type", "int(long,int) IllegalArgumentException IllegalStateException"),
             Map.entry("read", "int()"),
             Map.entry("place", "int()"),
             Map.entry("write", "int()"),
-            Map.entry("written", "int(int)"),
-            Map.entry("man", "int(int)"),
-            Map.entry("about", "int(int)"),
+            Map.entry("written", "int(int) IndexOutOfBoundsException"),
+            Map.entry("man", "int(int) IndexOutOfBoundsException"),
+            Map.entry("about", "int(int) IllegalArgumentException"),
             Map.entry("state", "int()"),
-            Map.entry("attacked", "boolean(int,int)"),
+            Map.entry("attacked", "boolean(int,int) IndexOutOfBoundsException IllegalArgumentException"),
             Map.entry("moves", "int()"),
-            Map.entry("move", "int(int,int)"),
-            Map.entry("play", "int(int,int,int)"),
-            Map.entry("back", "int()"),
-            Map.entry("ways", "int(int)"),
+            Map.entry("move", "int(int,int) IndexOutOfBoundsException IllegalArgumentException"),
+            Map.entry("play", "int(int,int,int) IndexOutOfBoundsException IllegalStateException"),
+            Map.entry("back", "int() IllegalStateException"),
+            Map.entry("ways", "int(int) IllegalArgumentException"),
             Map.entry("worth", "int()"),
-            Map.entry("search", "int(int)"),
-            Map.entry("chosen", "int(int)")));
+            Map.entry("search", "int(int) IllegalArgumentException"),
+            Map.entry("chosen", "int(int) IllegalArgumentException")));
 
     public static void main(String[] args) {
         Checks.says("the public face");
@@ -52,6 +52,7 @@ public final class FaceTest {
         Constructor<?>[] constructors = KingsBoard.class.getDeclaredConstructors();
         Checks.due("constructors", constructors.length, 1);
         Checks.due("its parameters", constructors[0].getParameterCount(), 0);
+        Checks.due("it is public", constructors[0].getModifiers(), Modifier.PUBLIC);
         Checks.due("NONE", KingsBoard.NONE, -1);
         Checks.finish();
     }
@@ -71,6 +72,10 @@ public final class FaceTest {
         for (Class<?> parameter : method.getParameterTypes()) {
             text.append(text.charAt(text.length() - 1) == '(' ? "" : ",").append(parameter.getName());
         }
-        return text.append(")").toString();
+        text.append(")");
+        for (Class<?> thrown : method.getExceptionTypes()) {
+            text.append(" ").append(thrown.getSimpleName());
+        }
+        return text.toString();
     }
 }

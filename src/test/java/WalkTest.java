@@ -149,7 +149,28 @@ public final class WalkTest {
         if (random(3) == 0) {
             passPawn(plain);
         }
+        if (random(3) == 0) {
+            goHome(plain);
+        }
         return plain;
+    }
+
+    /** Puts most kings and rooks at their places, with any RIGHTS, whatever comes of it. */
+    private static void goHome(PlainBoard plain) {
+        for (int side = 0; side < 2; side++) {
+            int sign = side == 0 ? 1 : -1;
+            int base = 56 * side;
+            int column = random(8) == 0 ? random(8) : 4;
+            for (int square = 0; square < 64; square++) {
+                boolean isOwnKing = plain.men[square] == 6 * sign;
+                boolean isBetween = square / 8 == base / 8 && random(3) > 0;
+                plain.men[square] = isOwnKing || isBetween ? 0 : plain.men[square];
+            }
+            plain.men[base] = random(8) == 0 ? 0 : 4 * sign;
+            plain.men[base + 7] = random(8) == 0 ? 0 : 4 * sign;
+            plain.men[base + column] = 6 * sign;
+        }
+        plain.rights = random(16);
     }
 
     /** Puts a pawn that went by two beside one of the side to move, whatever comes of it. */
